@@ -1,8 +1,17 @@
+import java.util.NoSuchElementException;
+
 /** Counts what is as due, and tells what is not. */
 final class Check {
     interface Call {
         Object answer();
     }
+
+    static final Class<? extends RuntimeException> ARGUMENT = IllegalArgumentException.class;
+    static final Class<? extends RuntimeException> STATE = IllegalStateException.class;
+    static final Class<? extends RuntimeException> INDEX = IndexOutOfBoundsException.class;
+    static final Class<? extends RuntimeException> UNSUPPORTED = UnsupportedOperationException.class;
+    static final Class<? extends RuntimeException> NO_ELEMENT = NoSuchElementException.class;
+    static final Class<? extends RuntimeException> ARITHMETIC = ArithmeticException.class;
 
     private static int right = 0;
     private static int wrong = 0;

@@ -1,10 +1,5 @@
 /** Promises 1 to 7: a new object, addLog, knot, split, staves, stave, isWhere. */
 final class LogsTest {
-    private static final Class<IllegalArgumentException> ARGUMENT = IllegalArgumentException.class;
-    private static final Class<IllegalStateException> STATE = IllegalStateException.class;
-    private static final Class<IndexOutOfBoundsException> INDEX = IndexOutOfBoundsException.class;
-    private static final Class<UnsupportedOperationException> UNSUPPORTED = UnsupportedOperationException.class;
-
     public static void main(String[] args) {
         newObject();
         addLog();
@@ -31,9 +26,9 @@ final class LogsTest {
         for (char what : "vtmrf".toCharArray()) {
             Check.same("vat " + what, yard.vat(what), 0);
         }
-        Check.refuses("split", yard, INDEX, () -> yard.split(0));
-        Check.refuses("size", yard, INDEX, () -> yard.size(0));
-        Check.refuses("stave", yard, INDEX, () -> yard.stave(0, 'w'));
+        Check.refuses("split", yard, Check.INDEX, () -> yard.split(0));
+        Check.refuses("size", yard, Check.INDEX, () -> yard.size(0));
+        Check.refuses("stave", yard, Check.INDEX, () -> yard.stave(0, 'w'));
     }
 
     private static void addLog() {
@@ -43,32 +38,32 @@ final class LogsTest {
         int[][] wrong = {{-1, 30, 8}, {4, 30, 8}, {0, 11, 8}, {0, 61, 8}, {0, 30, 5}, {0, 30, 13},
             {Integer.MIN_VALUE, 30, 8}, {0, Integer.MAX_VALUE, 8}, {0, 30, Integer.MIN_VALUE}};
         for (int[] log : wrong) {
-            Check.refuses("addLog " + log[0] + " " + log[1] + " " + log[2], yard, ARGUMENT, () -> yard.addLog(log[0], log[1], log[2]));
+            Check.refuses("addLog " + log[0] + " " + log[1] + " " + log[2], yard, Check.ARGUMENT, () -> yard.addLog(log[0], log[1], log[2]));
         }
         for (int log = 2; log < 10; log++) {
             Check.same("log", yard.addLog(1, 20, 7), log);
         }
-        Check.refuses("an 11th log", yard, STATE, () -> yard.addLog(1, 20, 7));
-        Check.refuses("an 11th log of no region", yard, ARGUMENT, () -> yard.addLog(4, 20, 7));
+        Check.refuses("an 11th log", yard, Check.STATE, () -> yard.addLog(1, 20, 7));
+        Check.refuses("an 11th log of no region", yard, Check.ARGUMENT, () -> yard.addLog(4, 20, 7));
         Check.same("the last log", yard.knot(9, 0), true);
     }
 
     private static void knot() {
         Staveyard yard = new Staveyard();
-        Check.refuses("knot of no log", yard, INDEX, () -> yard.knot(0, 8));
+        Check.refuses("knot of no log", yard, Check.INDEX, () -> yard.knot(0, 8));
         yard.addLog(0, 20, 6);
         yard.addLog(0, 20, 6);
         Check.same("knot", yard.knot(0, 7), true);
         Check.same("the same knot", yard.knot(0, 7), false);
         Check.same("another knot", yard.knot(0, 0), true);
         Check.same("a knot of another log", yard.knot(1, 7), true);
-        Check.refuses("cleft 8", yard, ARGUMENT, () -> yard.knot(0, 8));
-        Check.refuses("cleft -1", yard, ARGUMENT, () -> yard.knot(0, -1));
-        Check.refuses("log -1", yard, INDEX, () -> yard.knot(-1, 0));
-        Check.refuses("log 2", yard, INDEX, () -> yard.knot(2, 0));
+        Check.refuses("cleft 8", yard, Check.ARGUMENT, () -> yard.knot(0, 8));
+        Check.refuses("cleft -1", yard, Check.ARGUMENT, () -> yard.knot(0, -1));
+        Check.refuses("log -1", yard, Check.INDEX, () -> yard.knot(-1, 0));
+        Check.refuses("log 2", yard, Check.INDEX, () -> yard.knot(2, 0));
         yard.split(0);
-        Check.refuses("knot of a split log", yard, UNSUPPORTED, () -> yard.knot(0, 1));
-        Check.refuses("no cleft of a split log", yard, ARGUMENT, () -> yard.knot(0, 8));
+        Check.refuses("knot of a split log", yard, Check.UNSUPPORTED, () -> yard.knot(0, 1));
+        Check.refuses("no cleft of a split log", yard, Check.ARGUMENT, () -> yard.knot(0, 8));
     }
 
     /** A radius of 60 has blanks at 56, 46, 36, 26, 16 from the heart; the last is too narrow in clefts 0 to 2. */
@@ -85,16 +80,16 @@ final class LogsTest {
         for (int stave = 0; stave < 37; stave++) {
             Check.same("in the stack, from below", yard.inStack(36 - stave), stave);
         }
-        Check.refuses("split twice", yard, UNSUPPORTED, () -> yard.split(0));
-        Check.refuses("split no log", yard, INDEX, () -> yard.split(1));
-        Check.refuses("split log -1", yard, INDEX, () -> yard.split(-1));
+        Check.refuses("split twice", yard, Check.UNSUPPORTED, () -> yard.split(0));
+        Check.refuses("split no log", yard, Check.INDEX, () -> yard.split(1));
+        Check.refuses("split log -1", yard, Check.INDEX, () -> yard.split(-1));
     }
 
     private static void splitNarrow() {
         Staveyard yard = new Staveyard();
         yard.addLog(0, 12, 6);
         Check.same("8 from the heart, none is wide enough", yard.split(0), 0);
-        Check.refuses("split twice without staves", yard, UNSUPPORTED, () -> yard.split(0));
+        Check.refuses("split twice without staves", yard, Check.UNSUPPORTED, () -> yard.split(0));
         yard.addLog(0, 20, 6);
         yard.knot(1, 3);
         Check.same("16 from the heart, clefts 4 to 7", yard.split(1), 4);
@@ -126,13 +121,13 @@ final class LogsTest {
         yard.split(0);
         yard.split(1);
         Check.same("staves", yard.staves(), 74);
-        Check.refuses("9 more would be 83", yard, STATE, () -> yard.split(2));
+        Check.refuses("9 more would be 83", yard, Check.STATE, () -> yard.split(2));
         Check.same("the log was not split", yard.knot(2, 0), true);
         yard.knot(2, 7);
         Check.same("6 more are 80", yard.split(2), 6);
-        Check.refuses("one more would be too many", yard, STATE, () -> yard.split(3));
+        Check.refuses("one more would be too many", yard, Check.STATE, () -> yard.split(3));
         Check.same("none more is fine", yard.split(4), 0);
-        Check.refuses("a split log at 80", yard, UNSUPPORTED, () -> yard.split(0));
+        Check.refuses("a split log at 80", yard, Check.UNSUPPORTED, () -> yard.split(0));
         Check.same("staves", yard.staves(), 80);
     }
 
@@ -151,10 +146,10 @@ final class LogsTest {
         Check.same("region", yard.stave(1, 'r'), 1);
         Check.same("log", yard.stave(1, 'g'), 1);
         Check.same("log of the other", yard.stave(18, 'g'), 0);
-        Check.refuses("no such thing", yard, ARGUMENT, () -> yard.stave(0, 'x'));
-        Check.refuses("no such thing either", yard, ARGUMENT, () -> yard.stave(0, (char) 0));
-        Check.refuses("stave 19", yard, INDEX, () -> yard.stave(19, 'x'));
-        Check.refuses("stave -1", yard, INDEX, () -> yard.stave(-1, 'w'));
+        Check.refuses("no such thing", yard, Check.ARGUMENT, () -> yard.stave(0, 'x'));
+        Check.refuses("no such thing either", yard, Check.ARGUMENT, () -> yard.stave(0, (char) 0));
+        Check.refuses("stave 19", yard, Check.INDEX, () -> yard.stave(19, 'x'));
+        Check.refuses("stave -1", yard, Check.INDEX, () -> yard.stave(-1, 'w'));
     }
 
     private static void isWhere() {
@@ -164,7 +159,7 @@ final class LogsTest {
         yard.replace(0, 5, 35);
         Check.same("thrown away", yard.isWhere(2), 'x');
         Check.same("in the cask now", yard.isWhere(35), 'c');
-        Check.refuses("stave 37", yard, INDEX, () -> yard.isWhere(37));
-        Check.refuses("stave -1", yard, INDEX, () -> yard.isWhere(-1));
+        Check.refuses("stave 37", yard, Check.INDEX, () -> yard.isWhere(37));
+        Check.refuses("stave -1", yard, Check.INDEX, () -> yard.isWhere(-1));
     }
 }
