@@ -88,14 +88,21 @@ final class HoopsTest {
         Staveyard less = Yards.raised(2);
         less.bend(0, 0, 23);
         Check.same("398 of moisture", less.leaks(0, 0, 0), true);
-        Staveyard both = Yards.bent(2);
-        both.replace(0, 5, 35);
-        Check.same("156 and 176", both.leaks(0, 4, 0), true);
-        for (int month = 0; month < 1; month++) {
-            both.month(0, 60);
-        }
-        both.replace(0, 6, 36 - 2);
-        Check.same("a dry one behind", both.leaks(0, 6, 0), true);
+        Check.same("203 and 196", moistened(27).leaks(0, 7, 0), true);
+        Check.same("204 and 196", moistened(28).leaks(0, 7, 0), false);
+        Check.same("196 and 196", moistened(28).leaks(0, 6, 0), true);
+    }
+
+    /** Errors of 2, moistures of 196, but for the stave in the place 0, which has 176 and the rain. */
+    private static Staveyard moistened(int rain) {
+        Staveyard yard = Yards.alike();
+        yard.setJig(2);
+        yard.raise(352, 200, 200, 9);
+        yard.bend(0, 0, 20);
+        yard.turnStack();
+        yard.month(0, rain);
+        yard.replace(0, 0, 8);
+        return yard;
     }
 
     private static void leaksByCracks() {
