@@ -29,7 +29,7 @@ public final class Staveyard {
 
     private final Log[] logs = new Log[MOST_LOGS];
     private int logCount;
-    private final Stave[] staves = new Stave[MOST_STAVES];
+    private final Stave[] staves;
     private int staveCount;
     private final Stack stack;
     private final Chooser chooser = new Chooser();
@@ -50,13 +50,15 @@ public final class Staveyard {
         for (int number = 0; number < MOST_LOGS; number++) {
             logs[number] = new Log();
         }
+        Stave[] blanks = new Stave[MOST_STAVES];
         for (int number = 0; number < MOST_STAVES; number++) {
-            staves[number] = new Stave();
+            blanks[number] = new Stave();
         }
         for (int number = 0; number < MOST_CASKS; number++) {
-            casks[number] = new Cask(staves);
+            casks[number] = new Cask(blanks);
         }
-        stack = new Stack(staves);
+        stack = new Stack(blanks);
+        staves = blanks;
     }
 
     // ---- logs and the stack

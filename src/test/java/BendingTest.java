@@ -110,6 +110,9 @@ final class BendingTest {
         Staveyard hot = Yards.bent(0);
         hot.toast(0, 400, 3);
         Check.same("146, 230, 286 in the layer 1, 62, 118, 174 in the layer 2", layers(hot, 3), "18 5 1 0 0 0 ");
+        Staveyard deep = Yards.bent(0);
+        deep.toast(0, 365, 10);
+        Check.same("through all layers, from 20 on", layers(deep, 5), "50 35 23 15 7 2 ");
         Staveyard mild = Yards.bent(0);
         mild.toast(0, 149, 60);
         Check.same("too mild", layers(mild, 0), "0 0 0 0 0 0 ");
@@ -141,6 +144,10 @@ final class BendingTest {
         for (int[] toast : wrong) {
             Check.refuses("toast " + toast[0] + " " + toast[1], full, Check.ARGUMENT, () -> full.toast(0, toast[0], toast[1]));
         }
+        full.pour(0, 6420);
+        Check.refuses("toast one with a little", full, Check.STATE, () -> full.toast(0, 200, 10));
+        Check.refuses("shave one with a little", full, Check.STATE, () -> full.shave(0, 1));
+        Check.refuses("groove one with a little", full, Check.STATE, () -> full.groove(0, 0, 8));
         Check.refuses("toast cask 1", full, Check.INDEX, () -> full.toast(1, 99, 0));
         full.pour(0, full.within(0, 'v'));
         Check.same("toast once it is empty", full.toast(0, 400, 60) > 0, true);
@@ -191,6 +198,11 @@ final class BendingTest {
         Check.same("264 and 16", yard.groove(0, 1, 8), 280);
         Check.same("deeper", yard.groove(0, 0, 4), 275);
         Check.same("the deepest", yard.groove(0, 0, 8), 283);
+        Staveyard wide = Yards.seasoned();
+        wide.raise(1000, 999, 500, 9);
+        wide.bend(0, 20, 20);
+        Check.same("999000 by 3142 is 317.9", wide.groove(0, 0, 3), 323);
+        Check.same("500000 by 3142 is 159.1", wide.groove(0, 1, 3), 165);
     }
 
     private static void grooveDeeper() {

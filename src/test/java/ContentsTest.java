@@ -59,7 +59,14 @@ final class ContentsTest {
         Yards.dry(like, 8, 78);
         like.raise(320, 304, 314, 6);
         Check.same("f is as close as e", like.contentBy(0, 'f'), like.contentBy(0, 'e'));
-        Check.same("of like ones, the first", like.closest(0), 'e');
+        Check.same("of two like ones, the first", like.closest(0), 'e');
+        Staveyard three = new Staveyard();
+        for (int log = 0; log < 8; log++) {
+            Yards.oneCleft(three, 0, 24, 6, log == 7 ? 1 : 0);
+        }
+        Yards.dry(three, 8, 78);
+        three.raise(323, 321, 321, 6);
+        contents(three, 497, 490, 490, 490, 'e');
     }
 
     private static void contentRefuses() {
@@ -116,6 +123,9 @@ final class ContentsTest {
         edge.pour(0, 6421 - 1000);
         Check.same("2 thousandths of 1000", edge.keep(0, 1, 0), 998);
         Check.same("of 998, at least 1", edge.keep(0, 1, 0), 997);
+        Staveyard below = Yards.filled();
+        below.pour(0, 6421 - 999);
+        Check.same("2 thousandths of 999", below.keep(0, 1, 0), 998);
         Staveyard stands = Yards.filled();
         stands.drive(0, 0, 5);
         String before = stands.stave(36, 'm') + " " + stands.stave(36, 't') + " " + stands.tightness(0, 0) + " " + stands.stave(32, 'm');
@@ -208,6 +218,10 @@ final class ContentsTest {
     private static void pour() {
         Staveyard yard = Yards.filled();
         yard.keep(0, 1, 0);
+        Staveyard just = Yards.filled();
+        just.keep(0, 1, 0);
+        just.pour(0, 6320);
+        Check.same("72 times 6320 is 71 times 6409 and 1", just.vat('t'), 72);
         Check.same("pour 1", yard.pour(0, 1), 1);
         Check.same("rounded up", yard.vat('t'), 1);
         Check.same("71 stay", yard.within(0, 't'), 71);
@@ -296,11 +310,38 @@ final class ContentsTest {
         yard.fill(0);
         yard.pour(0, 7);
         Check.same("and char", yard.vat('f'), 7);
+        regionsOfTwoCasks();
         yard.emptyVat();
         Check.same("an empty vat knows no toast", yard.vat('f'), 0);
         Check.same("an empty vat knows no region", yard.vat('r'), 0);
         yard.pour(0, 7);
         Check.same("a new vat", yard.vat('f'), 3);
+    }
+
+    /** The cask 0 is of region 2, the cask 1 of region 0. */
+    private static void regionsOfTwoCasks() {
+        Staveyard yard = new Staveyard();
+        yard.addLog(2, 60, 9);
+        yard.addLog(0, 60, 8);
+        yard.split(0);
+        yard.split(1);
+        Yards.dry(yard, 8, 78);
+        for (int cask = 0; cask < 2; cask++) {
+            yard.raise(1000, 840, 830, 9 - cask);
+            yard.bend(cask, 60, 60);
+            Yards.head(yard, cask, 0, 4);
+            Yards.head(yard, cask, 1, 4);
+            yard.fill(cask);
+            yard.keep(cask, 9 - cask, 0);
+        }
+        yard.pour(0, 100);
+        Check.same("region 2", yard.vat('r'), 4);
+        yard.pour(1, 100);
+        Check.same("and region 0", yard.vat('r'), 5);
+        Check.same("8 months of the other", yard.vat('m'), 8);
+        yard.pour(0, 100);
+        Check.same("still both", yard.vat('r'), 5);
+        Check.same("both filled, kept and poured", yard.isSound(), true);
     }
 
     private static void vatRefuses() {

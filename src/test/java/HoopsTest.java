@@ -30,6 +30,7 @@ final class HoopsTest {
         yard.drive(0, 4, 15);
         yard.month(0, 0);
         Check.same("29 and 2", yard.drive(0, 4, 1), 31);
+        Check.same("31 and 1", yard.drive(0, 4, 1), 32);
         Check.same("a full one can be driven", Yards.filled().drive(0, 3, 2), 4);
     }
 
@@ -119,6 +120,25 @@ final class HoopsTest {
         yard.replace(0, 0, 8);
         Check.same("mended", yard.leaks(0, 0, 1), false);
         Check.same("mended ahead", yard.leaks(0, 7, 0), false);
+        lastJointIsBehindTheBung();
+    }
+
+    /** The stave 7 is the widest, so in the place 0, and the only one that cracks. */
+    private static void lastJointIsBehindTheBung() {
+        Staveyard yard = new Staveyard();
+        for (int log = 0; log < 8; log++) {
+            Yards.oneCleft(yard, log == 7 ? 0 : 3, 20, 9, log == 7 ? 5 : 4);
+        }
+        Yards.dry(yard, 8, 78);
+        yard.raise(355, 200, 200, 9);
+        Check.same("one cracks", yard.bend(0, 0, 20), 1);
+        Check.same("in the place 0", yard.at(0, 0), 7);
+        Check.same("the joint ahead of the bung", yard.leaks(0, 7, 1), true);
+        Check.same("the joint behind the bung", yard.leaks(0, 0, 1), true);
+        int[] tight = {1, 2, 3, 4, 5, 6};
+        for (int joint : tight) {
+            Check.same("the joint " + joint, yard.leaks(0, joint, 1), false);
+        }
     }
 
     private static void leaksRefuse() {
@@ -209,6 +229,19 @@ final class HoopsTest {
         Check.same("that is tight", open.isWhole(0), true);
         open.month(0, 0);
         Check.same("that is loose again", open.isWhole(0), false);
+        Staveyard upper = Yards.bent(0);
+        Yards.head(upper, 0, 0, 4);
+        Check.same("with the upper head alone", upper.isWhole(0), false);
+        Staveyard first = Yards.alike();
+        first.raise(352, 200, 200, 9);
+        first.bend(0, 60, 60);
+        Yards.head(first, 0, 0, 4);
+        Yards.head(first, 0, 1, 4);
+        Check.same("all are tight", first.isWhole(0), true);
+        first.setJig(3);
+        first.replace(0, 0, 8);
+        Check.same("the first joint leaks", first.isWhole(0), false);
+        Check.same("alone", first.tryAir(0, 1, 8), false);
         Check.refuses("cask 1", yard, Check.INDEX, () -> yard.isWhole(1));
         Check.refuses("cask -1", yard, Check.INDEX, () -> yard.isWhole(-1));
     }

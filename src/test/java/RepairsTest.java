@@ -64,7 +64,9 @@ final class RepairsTest {
         Check.refuses("not bent", green, Check.STATE, () -> green.replace(0, 5, 35));
         Staveyard full = Yards.filled();
         Check.refuses("full", full, Check.STATE, () -> full.replace(0, 5, 35));
-        full.pour(0, 6421);
+        full.pour(0, 6420);
+        Check.refuses("with a little", full, Check.STATE, () -> full.replace(0, 5, 35));
+        full.pour(0, 1);
         Check.same("empty", full.replace(0, 5, 35), 8);
     }
 
