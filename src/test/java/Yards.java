@@ -99,4 +99,77 @@ final class Yards {
         dry(yard, 8, 78);
         return yard;
     }
+
+    /** Two casks like that of raised, of one stack. */
+    static Staveyard twoRaised() {
+        Staveyard yard = seasoned();
+        yard.raise(1000, 840, 830, 9);
+        yard.raise(1000, 840, 830, 9);
+        return yard;
+    }
+
+    static Staveyard twoBent() {
+        Staveyard yard = twoRaised();
+        yard.bend(0, 20, 20);
+        yard.bend(1, 20, 20);
+        return yard;
+    }
+
+    static Staveyard twoWhole() {
+        Staveyard yard = twoBent();
+        for (int cask = 0; cask < 2; cask++) {
+            head(yard, cask, 0, 4);
+            head(yard, cask, 1, 5);
+        }
+        return yard;
+    }
+
+    static Staveyard twoFilled() {
+        Staveyard yard = twoWhole();
+        yard.fill(0);
+        yard.fill(1);
+        return yard;
+    }
+
+    /** Staves of 40 alone, as many as told, 10 at most, of a length of 6 and a moisture of 176. */
+    static Staveyard forties(int count) {
+        Staveyard yard = new Staveyard();
+        for (int log = 0; log < count; log++) {
+            oneCleft(yard, 0, 24, 6, 0);
+        }
+        dry(yard, 8, 78);
+        return yard;
+    }
+
+    /** 80 staves of a length of 9 and a moisture of 176, the widest that can be: 10 of 133, 6 of 130, 10 of 113, 6 of 110 and less. */
+    static Staveyard widest() {
+        Staveyard yard = new Staveyard();
+        for (int log = 0; log < 10; log++) {
+            yard.addLog(1, 60, 9);
+            for (int cleft = 0; cleft < (log < 6 ? 6 : 7); cleft++) {
+                yard.knot(log, cleft);
+            }
+            yard.split(log);
+        }
+        dry(yard, 8, 78);
+        return yard;
+    }
+
+    /** A stave alone of its log: a blank so far from the heart, in centimetres, 8 to 17, of this cleft. */
+    static void oneStave(Staveyard yard, int region, int away, int length, int cleft) {
+        oneCleft(yard, region, away + 4, length, cleft);
+    }
+
+    /** All 80 staves in ten casks of eight, each of a log of its own: 41, 43, 46, 49, 52, 55, 58 and 61. */
+    static Staveyard tenCasks() {
+        Staveyard yard = new Staveyard();
+        for (int log = 0; log < 10; log++) {
+            yard.addLog(log % 4, 24, 6 + log % 7);
+            yard.knot(log, 0);
+            yard.split(log);
+            dry(yard, 8, 78);
+            yard.raise(405, 300, 301, 6 + log % 7);
+        }
+        return yard;
+    }
 }
