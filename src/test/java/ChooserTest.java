@@ -26,7 +26,24 @@ final class ChooserTest {
         for (int seed = 0; seed < 12; seed++) {
             many(seed);
         }
+        oneTooWideByOne();
         Check.end();
+    }
+
+    /** Six of 46, then one of 83, one of 63 and one of 43, then 40 and 42: 83 is 1 more than what the last two make. */
+    private static void oneTooWideByOne() {
+        Staveyard yard = new Staveyard();
+        for (int log = 0; log < 6; log++) {
+            Yards.oneStave(yard, 0, 17, 9, 4);
+        }
+        Yards.oneCleft(yard, 0, 35, 9, 7);
+        Yards.oneStave(yard, 0, 17, 9, 2);
+        Yards.oneStave(yard, 0, 12, 9, 6);
+        Yards.dry(yard, 8, 70);
+        Check.same("six of 46, 40 and 42", yard.leastSum(358, 9), 358);
+        Check.same("the same anew", yard.leastSumAnew(358, 9), 358);
+        Check.same("raised of them", yard.raise(358, 357, 357, 9), 0);
+        Check.same("neither 83 nor 63", ringOf(yard), List.of(0, 1, 2, 3, 4, 5, 9, 10));
     }
 
     private static void few(int seed) {

@@ -369,6 +369,9 @@ final class EdgesOfSpiritTest {
         Check.same("a third is lost", yard.within(0, 'v') + " " + yard.within(0, 't'), "2 72");
         yard.keep(0, 1, 4);
         Check.same("a half is lost", yard.within(0, 'v') + " " + yard.within(0, 't'), "1 144");
+        yard.emptyVat();
+        yard.pour(0, 1);
+        Check.same("the last one takes it all", yard.vat('v') + " " + yard.vat('t'), "1 144");
     }
 
     private static String vat(Staveyard yard) {
